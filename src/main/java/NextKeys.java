@@ -1165,7 +1165,7 @@ public final class NextKeys {
             return what == 0 ? leastOf(numbers) : greatestOf(numbers);
         }
 
-        static int nodesOf(int numbers, int bits) {
+        private static int nodesOf(int numbers, int bits) {
             if (numbers == 0 || bits < 2) {
                 return numbers == 0 ? 0 : 1;
             }
@@ -1177,7 +1177,7 @@ public final class NextKeys {
             return nodes;
         }
 
-        static int depthOf(int numbers, int bits) {
+        private static int depthOf(int numbers, int bits) {
             if (numbers == 0 || bits < 2) {
                 return numbers == 0 ? 0 : 1;
             }
@@ -1189,7 +1189,7 @@ public final class NextKeys {
             return 1 + depth;
         }
 
-        static int stepsAbove(int numbers, int bits, int number) {
+        private static int stepsAbove(int numbers, int bits, int number) {
             if (numbers == 0 || bits < 2 || number < leastOf(numbers)) {
                 return 1;
             }
