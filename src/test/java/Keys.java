@@ -19,6 +19,10 @@ final class Keys {
         return text.append(')').toString();
     }
 
+    int left() {
+        return MOST_CALLS - calls;
+    }
+
     private void note(String call, int... with) {
         name = call;
         numbers = with;

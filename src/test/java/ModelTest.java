@@ -13,11 +13,12 @@ import java.util.TreeSet;
  */
 public final class ModelTest {
     static final int NONE = -1000000, BAD = -1000001, STATE = -1000002, FULL = -1000003;
+    static final int MOST_CALLS_A_STEP = 10, MOST_CALLS_A_TEXT = 140;
     static int wrong = 0;
 
     public static void main(String[] args) {
         allSmallSets();
-        for (int seed = 0; seed < 700; seed++) {
+        for (int seed = 0; seed < 1500; seed++) {
             run(seed);
         }
         for (int seed = 0; seed < 4000; seed++) {
@@ -43,7 +44,7 @@ public final class ModelTest {
     static void allSmallSets() {
         for (int bits = 2; bits <= 4; bits++) {
             for (int some = 0; some < 1 << (1 << bits); some++) {
-                NextKeys x = new NextKeys();
+                Keys x = new Keys();
                 feed(x, "u" + bits + ";a0;");
                 x.shelf();
                 for (int key = 0; key < 1 << bits; key++) {
@@ -56,7 +57,7 @@ public final class ModelTest {
         }
     }
 
-    static void smallSet(NextKeys x, int bits, int some) {
+    static void smallSet(Keys x, int bits, int some) {
         String where = "bits " + bits + ", set " + some;
         TreeSet<Integer> keys = new TreeSet<>();
         for (int key = 0; key < 1 << bits; key++) {
@@ -77,9 +78,9 @@ public final class ModelTest {
 
     static void texts(int seed) {
         Random random = new Random(seed);
-        NextKeys x = new NextKeys();
+        Keys x = new Keys();
         Model m = new Model();
-        for (int i = 0; i < 8; i++) {
+        for (int i = 0; i < 8 && x.left() >= MOST_CALLS_A_TEXT; i++) {
             String text = text(random);
             for (int k = 0; k < text.length(); k++) {
                 same("text " + seed, "feed", x.feed(text.charAt(k)), m.feed(text.charAt(k)));
@@ -140,9 +141,8 @@ public final class ModelTest {
 
     static void run(int seed) {
         Random random = new Random(1000000L + seed);
-        NextKeys x = new NextKeys();
+        Keys x = new Keys();
         Model m = new Model();
-        int calls = 0;
         if (random.nextInt(10) != 0) {
             String text = goodText(random);
             feed(x, text);
@@ -150,10 +150,9 @@ public final class ModelTest {
                 m.feed(text.charAt(i));
             }
             same("run " + seed, "shelf", x.shelf(), m.shelf());
-            calls = text.length() + 1;
         }
         boolean wild = random.nextInt(20) == 0;
-        for (; calls < 512; calls++) {
+        while (x.left() >= MOST_CALLS_A_STEP) {
             String call = CALLS[random.nextInt(CALLS.length)];
             if (random.nextInt(4) == 0) {
                 call = CALLS[8 + random.nextInt(6)];
@@ -161,7 +160,7 @@ public final class ModelTest {
             if ((call.equals("shelf") || call.equals("restore")) && random.nextInt(8) != 0) {
                 continue;
             }
-            step("run " + seed + " call " + calls, x, m, call, wild, random);
+            step("run " + seed + ", " + x.left() + " calls left", x, m, call, wild, random);
         }
     }
 
@@ -175,7 +174,7 @@ public final class ModelTest {
             : low + random.nextInt(high - low + 1);
     }
 
-    static void step(String where, NextKeys x, Model m, String call, boolean wild, Random random) {
+    static void step(String where, Keys x, Model m, String call, boolean wild, Random random) {
         int top = m.top() == 0 ? 16 : m.top();
         int s = arg(random, wild, 0, Math.max(0, m.sets.size() - 1));
         int s2 = arg(random, wild, 0, Math.max(0, m.sets.size() - 1));
@@ -318,7 +317,7 @@ public final class ModelTest {
         same(where, "status() behind " + call, x.status(), m.status);
     }
 
-    static void feed(NextKeys x, String text) {
+    static void feed(Keys x, String text) {
         for (int i = 0; i < text.length(); i++) {
             x.feed(text.charAt(i));
         }

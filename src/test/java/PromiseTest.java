@@ -50,7 +50,7 @@ public final class PromiseTest {
         }
     }
 
-    static int feed(NextKeys x, String text) {
+    static int feed(Keys x, String text) {
         int last = 0;
         for (int i = 0; i < text.length(); i++) {
             last = x.feed(text.charAt(i));
@@ -59,8 +59,8 @@ public final class PromiseTest {
     }
 
     /** A new object with the SHELF that a text tells. */
-    static NextKeys told(String text) {
-        NextKeys x = new NextKeys();
+    static Keys told(String text) {
+        Keys x = new Keys();
         feed(x, text);
         if (x.shelf() < 1) {
             due("shelf of " + text, 0, 1);
@@ -69,7 +69,7 @@ public final class PromiseTest {
     }
 
     /** The KEYS of a SET, one by one. */
-    static void dueKeys(NextKeys x, int set, int... want) {
+    static void dueKeys(Keys x, int set, int... want) {
         due("keys", x.keys(set), want.length);
         for (int k = 0; k < want.length; k++) {
             due("nth " + k, x.nth(set, k), want[k]);
@@ -78,7 +78,7 @@ public final class PromiseTest {
     }
 
     /** No call reads an ITEM, so each is gathered into SET 0 and that is undone. */
-    static void dueItems(NextKeys x, int row, int... want) {
+    static void dueItems(Keys x, int row, int... want) {
         for (int i = 0; i < want.length; i++) {
             int before = x.keys(0);
             int more = x.contains(0, want[i]) == 1 ? 0 : 1;
@@ -90,7 +90,7 @@ public final class PromiseTest {
 
     static void newObject() {
         promise = 1;
-        NextKeys x = new NextKeys();
+        Keys x = new Keys();
         for (int what = 0; what <= 6; what++) {
             due("count(" + what + ")", x.count(what), 0);
         }
@@ -106,7 +106,7 @@ public final class PromiseTest {
 
     static void rows() {
         promise = 2;
-        NextKeys x = new NextKeys();
+        Keys x = new Keys();
         due("row", x.row(0, 0, 0), 0);
         due("row of 40", x.row(7, 2, 40), 40);
         due("row of 41", x.row(1, 2, 41), BAD);
@@ -126,7 +126,7 @@ public final class PromiseTest {
         due("as a short", x.set(0, 0, 65535), -1);
 
         promise = 3;
-        x = new NextKeys();
+        x = new Keys();
         x.row(0, 0, 2);
         x.row(1, 1, 2);
         x.row(2, 2, 2);
@@ -150,7 +150,7 @@ public final class PromiseTest {
 
     static void copies() {
         promise = 4;
-        NextKeys x = told("u5;a31;");
+        Keys x = told("u5;a31;");
         x.row(0, 2, 5);
         x.row(1, 2, 3);
         x.row(2, 1, 5);
@@ -186,7 +186,7 @@ public final class PromiseTest {
 
     static void drops() {
         promise = 5;
-        NextKeys x = new NextKeys();
+        Keys x = new Keys();
         x.row(3, 0, 7);
         x.row(4, 0, 0);
         due("drop", x.drop(3), 7);
@@ -199,7 +199,7 @@ public final class PromiseTest {
 
     static void tapes() {
         promise = 6;
-        NextKeys x = new NextKeys();
+        Keys x = new Keys();
         due("first", x.feed(0), 1);
         due("second", x.feed(255), 2);
         due("256", x.feed(256), BAD);
@@ -213,7 +213,7 @@ public final class PromiseTest {
         due("a byte that is none", x.shelf(), -1000100);
 
         promise = 7;
-        x = new NextKeys();
+        x = new Keys();
         due("text", feed(x, "u10;a0,99;r5;c07;b1,1,1;"), 24);
         due("shelf", x.shelf(), 4);
         due("tape", x.count(6), 0);
@@ -243,13 +243,13 @@ public final class PromiseTest {
             longest.append(",").append("2");
         }
         longest.append("3;");
-        x = new NextKeys();
+        x = new Keys();
         due("110 bytes", feed(x, longest.toString()), 110);
         due("a text of 110 bytes", x.shelf(), 1);
         dueKeys(x, 0, 1, 2, 23);
     }
 
-    static void dueFault(NextKeys x, String text, int place, int number) {
+    static void dueFault(Keys x, String text, int place, int number) {
         feed(x, text);
         due("shelf of \"" + text + "\"", x.shelf(), -1000100 - place);
         due("fault of \"" + text + "\"", x.fault(), number);
@@ -257,7 +257,7 @@ public final class PromiseTest {
 
     static void faults() {
         promise = 8;
-        NextKeys x = new NextKeys();
+        Keys x = new Keys();
         due("none yet", x.fault(), 0);
         dueFault(x, "", 0, 1);
         dueFault(x, "a", 0, 1);
@@ -303,7 +303,7 @@ public final class PromiseTest {
 
     static void undoing() {
         promise = 9;
-        NextKeys x = told("u4;a1;b2;");
+        Keys x = told("u4;a1;b2;");
         due("none", x.undo(), STATE);
         x.add(0, 5);
         x.take(1, 2);
@@ -340,7 +340,7 @@ public final class PromiseTest {
 
     static void addAndTake() {
         promise = 10;
-        NextKeys x = told("u6;a3;b4;");
+        Keys x = told("u6;a3;b4;");
         due("add", x.add(0, 63), 2);
         due("add 0", x.add(0, 0), 3);
         due("there", x.add(0, 3), STATE);
@@ -366,7 +366,7 @@ public final class PromiseTest {
 
     static void flips() {
         promise = 12;
-        NextKeys x = told("u7;a30,33,64,96;");
+        Keys x = told("u7;a30,33,64,96;");
         due("over words", x.flip(0, 31, 64), 4 - 2 + 32);
         due("31", x.contains(0, 31), 1);
         due("33", x.contains(0, 33), 0);
@@ -385,7 +385,7 @@ public final class PromiseTest {
         promise = 13;
         int[] sizes = {1, 3, 2, 1};
         for (int how = 0; how < 4; how++) {
-            NextKeys x = told("u6;a1,40;b40,50;c7;");
+            Keys x = told("u6;a1,40;b40,50;c7;");
             due("join " + how, x.join(how, 0, 1, 2), sizes[how]);
             due("1", x.contains(2, 1), how == 0 ? 0 : 1);
             due("40", x.contains(2, 40), how < 2 ? 1 : 0);
@@ -394,7 +394,7 @@ public final class PromiseTest {
             dueKeys(x, 0, 1, 40);
             dueKeys(x, 1, 40, 50);
         }
-        NextKeys x = told("u6;a1,40;b40,50;");
+        Keys x = told("u6;a1,40;b40,50;");
         due("onto b", x.join(3, 0, 1, 1), 1);
         dueKeys(x, 1, 1);
         x.undo();
@@ -411,7 +411,7 @@ public final class PromiseTest {
 
     static void shifts() {
         promise = 14;
-        NextKeys x = told("u6;a0,31,32,63;");
+        Keys x = told("u6;a0,31,32,63;");
         due("up", x.shift(0, 1), 3);
         dueKeys(x, 0, 1, 32, 33);
         due("by a word", x.shift(0, 32), 1);
@@ -435,7 +435,7 @@ public final class PromiseTest {
 
     static void gathers() {
         promise = 15;
-        NextKeys x = told("u4;a1;");
+        Keys x = told("u4;a1;");
         x.row(0, 2, 5);
         x.set(0, 0, 1);
         x.set(0, 1, 3);
@@ -465,7 +465,7 @@ public final class PromiseTest {
 
     static void plainFacts() {
         promise = 16;
-        NextKeys x = told("u6;a0,31,32,63;b5;");
+        Keys x = told("u6;a0,31,32,63;b5;");
         due("0", x.contains(0, 0), 1);
         due("1", x.contains(0, 1), 0);
         due("31", x.contains(0, 31), 1);
@@ -498,7 +498,7 @@ public final class PromiseTest {
         int[][] want = {{10, 20, 20, NONE, NONE}, {10, 20, 20, 10, 10}, {10, 10, 20, 40, NONE},
             {NONE, NONE, 10, 20, 40}, {40, 40, 10, 20, 40}};
         for (int sort = 0; sort < 5; sort++) {
-            NextKeys x = told("u6;" + "arcbd".charAt(sort) + keys);
+            Keys x = told("u6;" + "arcbd".charAt(sort) + keys);
             for (int i = 0; i < asked.length; i++) {
                 due("next of " + asked[i] + " in " + "arcbd".charAt(sort), x.next(0, asked[i]), want[sort][i]);
             }
@@ -510,12 +510,12 @@ public final class PromiseTest {
             x.shift(0, 100);
             due("of an EMPTY one", x.next(0, 20), NONE);
         }
-        NextKeys one = told("u6;r9;d9;");
+        Keys one = told("u6;r9;d9;");
         due("round, one alone", one.next(0, 9), 9);
         due("deep, one alone", one.next(1, 9), 9);
 
         promise = 20;
-        NextKeys x = told("u6;b10,40;r10,40;");
+        Keys x = told("u6;b10,40;r10,40;");
         for (int set = 0; set < 2; set++) {
             due("above", x.beside(set, 10, 0), 40);
             due("above the greatest", x.beside(set, 40, 0), NONE);
@@ -533,7 +533,7 @@ public final class PromiseTest {
     static void nodes() {
         promise = 21;
         // 4 bits: 2 and 2. LEAST 1; 6 is CLUSTER 1, LOW 2; 7 is CLUSTER 1, LOW 3; 12 is CLUSTER 3, LOW 0.
-        NextKeys x = told("u4;a1,6,7,12;");
+        Keys x = told("u4;a1,6,7,12;");
         due("below the LEAST", x.steps(0, 0), 1);
         due("by the SUMMARY, below its LEAST", x.steps(0, 1), 2);
         due("by the CLUSTER, below its LEAST", x.steps(0, 5), 2);
@@ -565,7 +565,7 @@ public final class PromiseTest {
         due("what 3", x.cluster(0, 0, 3), BAD);
         due("what -1", x.cluster(0, 0, -1), BAD);
         due("no SET", x.cluster(1, 0, 0), BAD);
-        NextKeys odd = told("u7;a0,99;");
+        Keys odd = told("u7;a0,99;");
         due("the greater half is HIGH", odd.cluster(0, 15, 0), NONE);
         due("no HIGH part of 4 bits", odd.cluster(0, 16, 0), BAD);
         due("HIGH 12, LOW 3", odd.cluster(0, 12, 0), 3);
@@ -589,7 +589,7 @@ public final class PromiseTest {
 
     static void words() {
         promise = 25;
-        NextKeys x = told("u7;a0,31,33,99;");
+        Keys x = told("u7;a0,31,33,99;");
         due("word 0", x.word(0, 0, 0), MIN + 1);
         due("word 1", x.word(0, 0, 1), 2);
         due("word 2", x.word(0, 0, 2), 0);
@@ -601,7 +601,7 @@ public final class PromiseTest {
         due("level 2", x.word(0, 2, 0), BAD);
         due("level -1", x.word(0, -1, 0), BAD);
         due("no SET", x.word(1, 0, 0), BAD);
-        NextKeys small = told("u5;a31;");
+        Keys small = told("u5;a31;");
         due("one word", small.word(0, 0, 0), MIN);
         due("one word alone", small.word(0, 0, 1), BAD);
         due("no level 1", small.word(0, 1, 0), BAD);
@@ -628,7 +628,7 @@ public final class PromiseTest {
 
     static void shares() {
         promise = 27;
-        NextKeys x = told("u10;a1,2;b0;");
+        Keys x = told("u10;a1,2;b0;");
         due("fill", x.share(0, 0), Float.floatToIntBits(2f / 1024));
         due("mean", x.share(0, 1), Float.floatToIntBits(1.5f));
         due("mean, cut", x.share(0, 2), 1);
@@ -645,7 +645,7 @@ public final class PromiseTest {
         due("mean of all", x.share(1, 1), Float.floatToIntBits(511.5f));
         due("mean of all, cut", x.share(1, 2), 511);
         int total = 1023 * 512;
-        for (int size = 1023; size > 900; size--) {
+        for (int size = 1023; size > 910; size--) {
             int key = (size * 37) % 1024;
             x.take(1, key);
             total -= key;
@@ -657,7 +657,7 @@ public final class PromiseTest {
 
     static void ranks() {
         promise = 28;
-        NextKeys x = told("u6;a3,31,32,63;");
+        Keys x = told("u6;a3,31,32,63;");
         due("0", x.rank(0, 0), 0);
         due("3", x.rank(0, 3), 0);
         due("4", x.rank(0, 4), 1);
@@ -693,7 +693,7 @@ public final class PromiseTest {
 
     static void tells() {
         promise = 31;
-        NextKeys x = told("u8;a3,31,50,70;b99;");
+        Keys x = told("u8;a3,31,50,70;b99;");
         x.add(0, 200);
         x.row(0, 2, 5);
         due("from a KEY on", x.tell(0, 31, 0, 1), 4);
@@ -724,7 +724,7 @@ public final class PromiseTest {
 
     static void chases() {
         promise = 32;
-        NextKeys x = told("u6;a5,10,15;b2,7,12;r4;");
+        Keys x = told("u6;a5,10,15;b2,7,12;r4;");
         due("0 times", x.chase(0, 1, 9, 0), 9);
         due("once", x.chase(0, 1, 9, 1), 10);
         due("twice", x.chase(0, 1, 9, 2), 7);
@@ -743,7 +743,7 @@ public final class PromiseTest {
 
     static void meets() {
         promise = 33;
-        NextKeys x = told("u7;a3,40,99;b3,41,99;c3,40,41,99;");
+        Keys x = told("u7;a3,40,99;b3,41,99;c3,40,41,99;");
         due("it", x.meet(3), 3);
         due("from 0", x.meet(0), 3);
         due("greater", x.meet(4), 99);
@@ -754,7 +754,7 @@ public final class PromiseTest {
 
     static void covers() {
         promise = 34;
-        NextKeys x = told("u6;a0,1,2;b2,3,31;c32,33;d0,1,2,3;");
+        Keys x = told("u6;a0,1,2;b2,3,31;c32,33;d0,1,2,3;");
         due("one", x.cover(0, 2, 0), 1);
         due("which, the least", x.cover(0, 2, 1), 1);
         due("the one that has all", x.cover(1, 3, 0), 1);
@@ -769,14 +769,14 @@ public final class PromiseTest {
         due("what -1", x.cover(0, 0, -1), BAD);
         due("no KEY", x.cover(0, 64, 0), BAD);
         due("no KEY", x.cover(-1, 0, 0), BAD);
-        NextKeys y = told("u4;a0,1;b1,2;c0,2;");
+        Keys y = told("u4;a0,1;b1,2;c0,2;");
         due("several, the least", y.cover(0, 2, 1), 3);
         due("how many", y.cover(0, 2, 0), 2);
     }
 
     static void gaps() {
         promise = 35;
-        NextKeys x = told("u7;a3,10,17,20,99;b4;c1,2;");
+        Keys x = told("u7;a3,10,17,20,99;b4;c1,2;");
         due("lesser", x.gap(0, 0), 20);
         due("how far", x.gap(0, 1), 79);
         x.take(0, 99);
@@ -794,7 +794,7 @@ public final class PromiseTest {
 
     static void likelies() {
         promise = 36;
-        NextKeys x = told("u7;a3,10,17,20;b0;");
+        Keys x = told("u7;a3,10,17,20;b0;");
         due("next to it", x.likely(0, 3, 10, 3, 0), 7);
         due("next to it", x.likely(0, 3, 10, 3, 1), 10);
         due("the second", x.likely(0, 3, 17, 5, 0), 1);
@@ -827,7 +827,7 @@ public final class PromiseTest {
 
     static void draws() {
         promise = 37;
-        NextKeys x = told("u10;a0;b0;");
+        Keys x = told("u10;a0;b0;");
         // X: 16807 (set 1, KEY 2100 by 1024 leaves 52), 282475249 (set 1, KEY 35309406 by 1024 leaves 350)
         due("0 times", x.drawn(0, 1, 0), 2);
         due("0 times, nodes", x.drawn(0, 1, 1), 2);
@@ -844,8 +844,8 @@ public final class PromiseTest {
         due("seed 1000000", x.drawn(1, 1000000, 0), BAD);
         due("what 2", x.drawn(1, 1, 2), BAD);
         due("what -1", x.drawn(1, 1, -1), BAD);
-        due("STATE ahead of BAD", new NextKeys().drawn(-1, 0, 9), STATE);
-        NextKeys full = told("u10;a0;b0;r5;c9;");
+        due("STATE ahead of BAD", new Keys().drawn(-1, 0, 9), STATE);
+        Keys full = told("u10;a0;b0;r5;c9;");
         full.flip(0, 0, 1023);
         due("200 times", full.drawn(200, 77, 0), 1136);
         due("200 times, nodes", full.drawn(200, 77, 1), 1690);
@@ -853,7 +853,7 @@ public final class PromiseTest {
 
     static void images() {
         promise = 38;
-        NextKeys x = new NextKeys();
+        Keys x = new Keys();
         due("no SHELF", x.image(0), STATE);
         due("BAD ahead of STATE", x.image(2), BAD);
         feed(x, "u6;a3;r63;");
@@ -899,7 +899,7 @@ public final class PromiseTest {
         String[] such = {"01", "012", "013", "04", "045"};
         for (int sort = 0; sort < 5; sort++) {
             promise = 40;
-            NextKeys x = told("u2;b0;" + "arcbd".charAt(sort) + "0;");
+            Keys x = told("u2;b0;" + "arcbd".charAt(sort) + "0;");
             due("kind", x.kind(1), sort + 1);
             due("no SET", x.kind(2), BAD);
             due("no SET", x.kind(-1), BAD);
@@ -915,7 +915,7 @@ public final class PromiseTest {
         }
     }
 
-    static void dueAsk(NextKeys x, int one, int what, int answer, int... trace) {
+    static void dueAsk(Keys x, int one, int what, int answer, int... trace) {
         promise = 42;
         due("ask(" + one + ", " + what + ")", x.ask(one, what), answer);
         promise = 43;
@@ -926,7 +926,7 @@ public final class PromiseTest {
     }
 
     static void asks() {
-        NextKeys x = told("u6;d9;a7,9;r4,5,6;c8;");
+        Keys x = told("u6;d9;a7,9;r4,5,6;c8;");
         dueAsk(x, 0, 0, -198, 14, 13, 10);
         dueAsk(x, 0, 1, 198, 23, 20, 14, 13, 10);
         dueAsk(x, 1, 0, 2 + 1 + 7, 11, 10, 21, 20);
@@ -946,14 +946,14 @@ public final class PromiseTest {
         due("far", x.trace(MAX), NONE);
         x.take(3, 8);
         dueAsk(x, 3, 1, 3 - 1000, 22, 21, 20);
-        NextKeys below = told("u6;a1;b9,10;");
+        Keys below = told("u6;a1;b9,10;");
         dueAsk(below, 1, 0, -98, 13, 10);
         dueAsk(below, 1, 1, 1 + 98, 23, 20, 13, 10);
     }
 
     static void counts() {
         promise = 44;
-        NextKeys x = told("u4;a1,6,7,12;b1;");
+        Keys x = told("u4;a1,6,7,12;b1;");
         x.row(2, 0, 0);
         x.row(5, 1, 3);
         x.add(1, 3);
@@ -971,7 +971,7 @@ public final class PromiseTest {
 
     static void statuses() {
         promise = 45;
-        NextKeys x = told("u4;a1;");
+        Keys x = told("u4;a1;");
         due("at first", x.status(), 0);
         x.drop(0);
         due("NULL", x.status(), 1);

@@ -241,6 +241,27 @@ final class SetEdges extends Edges {
             due(x.steps(0, 6), 2);
             due(x.steps(0, 7), 3);
         });
+        // 6 bits: CLUSTERS and a SUMMARY of 3 bits, so the same within them
+        test(21, "else 1 and the STEPS above its LOW part in the CLUSTER of its HIGH part", () -> {
+            Keys x = having(6, 0, 8, 11);
+            due(x.steps(0, 7), 2);
+            due(x.steps(0, 8), 3);
+            due(x.steps(0, 9), 3);
+            due(x.steps(0, 10), 3);
+            due(x.steps(0, 11), 3);
+            x = having(6, 0, 8, 10, 15);
+            due(x.steps(0, 9), 3);
+            due(x.steps(0, 10), 4);
+            due(x.steps(0, 11), 4);
+            due(x.steps(0, 14), 3);
+            due(x.steps(0, 15), 3);
+            x = having(6, 0, 1, 24);
+            due(x.steps(0, 0), 2);
+            due(x.steps(0, 1), 3);
+            due(x.steps(0, 16), 3);
+            due(x.steps(0, 24), 4);
+            due(x.steps(0, 63), 4);
+        });
         test(21, "else 1 and the STEPS above its HIGH part in the SUMMARY", () -> {
             Keys x = having(3, 1, 6);
             due(x.steps(0, 0), 1);
@@ -286,6 +307,22 @@ final class SetEdges extends Edges {
                 x = having(bits, 0, 1);
                 due(x.tree(0, 0), 3);
                 due(x.tree(0, 1), 2);
+            }
+        });
+        test(22, "1 more than the greatest DEPTH of its SUMMARY, its CLUSTERS", () -> {
+            int[][] keys = {{0, 1, 2}, {0, 4, 7}, {0, 12, 15}, {0, 4, 12}, {0, 5, 9, 10}};
+            int[] nodes = {5, 5, 5, 6, 8};
+            for (int i = 0; i < keys.length; i++) {
+                Keys x = having(4, keys[i]);
+                due(x.tree(0, 0), nodes[i]);
+                due(x.tree(0, 1), 3);
+            }
+            int[][] deeper = {{0, 1, 2, 3}, {0, 16, 20, 23}, {0, 240, 252, 255}, {0, 16, 80, 128}};
+            int[] deeperNodes = {7, 7, 7, 10};
+            for (int i = 0; i < deeper.length; i++) {
+                Keys x = having(8, deeper[i]);
+                due(x.tree(0, 0), deeperNodes[i]);
+                due(x.tree(0, 1), 4);
             }
         });
         test(22, "with l half of b (cut) and h the rest", () -> {
@@ -508,6 +545,17 @@ final class SetEdges extends Edges {
             Keys x = full(10);
             x.take(0, 1022);
             due(x.share(0, 1), Float.floatToIntBits((float) (522754.0 / 1023)));
+        });
+        test(27, "MEAN: all its KEYS, together, by how many there are", () -> {
+            Keys x = full(10);
+            int total = 523776;
+            for (int size = 1023; size > 863; size--) {
+                int key = size * 37 % 1024;
+                x.take(0, key);
+                total -= key;
+                due(x.share(0, 1), Float.floatToIntBits((float) ((double) total / size)));
+                due(x.share(0, 2), total / size);
+            }
         });
         test(27, "and, cut, as an int", () -> {
             due(having(2, 0, 1).share(0, 2), 0);
