@@ -8,6 +8,7 @@ final class AskedEdges extends Edges {
         traces();
         counts();
         statuses();
+        orders();
         statusStays();
     }
 
@@ -301,6 +302,35 @@ final class AskedEdges extends Edges {
                 each.on(x);
                 due(x.status(), 0);
             }
+        });
+    }
+
+    /** Of a call that more than one refusal, or FINDING, fits. */
+    static void orders() {
+        test(45, "then FINDINGS, of several the first in time", () -> {
+            stillBusy(x -> x.row(8, 3, 41), BAD);
+            stillBusy(x -> x.row(0, 3, -1), BAD);
+            stillBusy(x -> x.set(5, -1, 0), NULL);
+            stillBusy(x -> x.copy(0, -1, 5, -1, -1), NULL);
+            stillBusy(x -> x.copy(5, -1, 1, -1, -1), NULL);
+            stillBusy(x -> x.copy(0, -1, 1, -1, -1), STORE);
+            stillBusy(x -> x.copy(8, -1, 5, -1, -1), BAD);
+            stillBusy(x -> x.gather(0, 5, -1, 1), NULL);
+            stillBusy(x -> x.gather(0, 0, 1, 4), PLACE);
+            stillBusy(x -> x.gather(4, 5, -1, 1), BAD);
+            stillBusy(x -> x.tell(0, 0, 5, -1), NULL);
+            stillBusy(x -> x.tell(0, -1, 5, -1), BAD);
+            stillBusy(x -> x.as(4, 4), BAD);
+            stillBusy(x -> x.as(0, 6), BAD);
+        });
+        test(45, "the first of these that fits, but as told: BAD", () -> {
+            stillBusy(x -> x.add(4, 3), BAD);
+            stillBusy(x -> x.take(4, 0), BAD);
+            stillBusy(x -> x.likely(0, 5, 3, 11, 0), BAD);
+            still(Edges::fresh, x -> x.image(2), BAD);
+            still(Edges::fresh, x -> x.restore(2), BAD);
+            still(Edges::fresh, x -> x.drawn(-1, 0, 2), STATE);
+            still(Edges::overfed, x -> x.feed(256), BAD);
         });
     }
 

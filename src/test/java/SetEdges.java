@@ -369,6 +369,10 @@ final class SetEdges extends Edges {
                 due(ends.cluster(0, 1, 0), 0);
                 due(ends.cluster(0, 1, 1), low - 1);
                 due(ends.cluster(0, 1, 2), low == 2 ? 1 : 3);
+                Keys first = having(bits, 0, low, low + 1);
+                due(first.cluster(0, 1, 1), 1);
+                due(first.cluster(0, 1, 2), low == 2 ? 1 : 3);
+                due(first.tree(0, 1), low == 2 ? 2 : 3);
                 Keys bottom = having(bits, 0, 1);
                 due(bottom.cluster(0, 0, 0), 1);
                 due(bottom.cluster(0, 0, 1), 1);
@@ -406,6 +410,10 @@ final class SetEdges extends Edges {
                 Keys x = having(bits, 0, 1, last);
                 due(x.summary(0, 0), 0);
                 due(x.summary(0, 1), highs[bits - 2] - 1);
+                due(x.summary(0, 2), bits == 2 ? 1 : 3);
+                x = having(bits, 0, 1, (1 << bits) / highs[bits - 2]);
+                due(x.summary(0, 0), 0);
+                due(x.summary(0, 1), 1);
                 due(x.summary(0, 2), bits == 2 ? 1 : 3);
             }
         });

@@ -7,6 +7,7 @@ final class TextEdges extends Edges {
         setsTold();
         keysTold();
         faultOrder();
+        strays();
         ends();
         shelves();
         faults();
@@ -241,6 +242,31 @@ final class TextEdges extends Edges {
             dueFault("u2;a999;", 4, 1);
             dueFault("u999;", 1, 1);
         });
+    }
+
+    /** Ahead of each TOKEN of a good text each other one is put. */
+    static void strays() {
+        test(8, "1 it cannot stand there, or is none", () -> {
+            String[] text = {"u", "6", ";", "a", "3", ",", "40", ";", "r", "7", ";"};
+            String[] strays = {"u", "a", "z", "5", "99", "100", ",", ";", " ", "A"};
+            String before = "";
+            for (int i = 0; i < text.length; i++) {
+                for (String stray : strays) {
+                    boolean figure = Character.isDigit(stray.charAt(0));
+                    boolean joins = figure && (Character.isDigit(text[i].charAt(0)) || isNumber(text, i - 1));
+                    boolean fits = text[i].equals(stray) || text[i].equals(",") && stray.equals(";")
+                        || text[i].equals(";") && stray.equals(",") && i > 2 || text[i].equals("r") && stray.equals("a");
+                    if (!joins && !fits) {
+                        dueFault(before + stray + text[i], before.length(), 1);
+                    }
+                }
+                before += text[i];
+            }
+        });
+    }
+
+    static boolean isNumber(String[] text, int i) {
+        return i >= 0 && Character.isDigit(text[i].charAt(0));
     }
 
     static void ends() {
