@@ -34,8 +34,9 @@ final class AskedEdges extends Edges {
     static void looksSeeAll() {
         test(1, "What is refused, or found, changes nothing but status().", () -> {
             Call[] changes = {x -> x.row(0, 2, 4), x -> x.row(0, 1, 4), x -> x.row(5, 0, 0), x -> x.set(0, 3, 7),
-                x -> x.set(2, 1, 8), x -> x.copy(0, 0, 4, 0, 1), x -> x.drop(3), x -> x.drop(4), x -> x.row(3, 1, 0),
-                x -> x.feed(0), x -> x.shelf(), x -> x.undo(), x -> x.add(0, 0), x -> x.take(1, 63),
+                x -> x.set(2, 1, 8), x -> x.set(4, 6, 8), x -> x.set(4, 39, 8), x -> x.copy(0, 0, 4, 0, 1),
+                x -> x.drop(3), x -> x.drop(4), x -> x.row(3, 1, 0), x -> x.feed(0), x -> x.shelf(), x -> x.undo(),
+                x -> x.add(0, 0), x -> x.take(1, 63),
                 x -> x.flip(3, 63, 63), x -> x.join(0, 0, 0, 0), x -> x.shift(2, 0), x -> x.gather(0, 0, 0, 1),
                 x -> x.tell(0, 0, 1, 1), x -> x.image(0), x -> x.image(1), x -> x.restore(0), x -> x.ask(3, 1),
                 x -> read(x, "z")};

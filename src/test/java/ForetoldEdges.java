@@ -230,7 +230,8 @@ final class ForetoldEdges extends Edges {
 
     static void likelyEnds() {
         test(36, "fractions, told as two numbers in lowest terms (0 is 0 by 1)", () -> {
-            long[][] next = {{1, 1}, {9, 10}, {4, 5}, {7, 10}, {3, 5}, {1, 2}, {2, 5}, {3, 10}, {1, 5}, {1, 10}, {0, 1}};
+            long[][] next = {{1, 1}, {9, 10}, {4, 5}, {7, 10}, {3, 5}, {1, 2}, {2, 5}, {3, 10}, {1, 5}, {1, 10},
+                {0, 1}};
             long[][] second = {{0, 1}, {9, 100}, {4, 25}, {21, 100}, {6, 25}, {1, 4}, {6, 25}, {21, 100}, {4, 25},
                 {9, 100}, {0, 1}};
             Keys x = busy();
@@ -250,7 +251,7 @@ final class ForetoldEdges extends Edges {
             due(x.likely(1, 0, 17, 1, 1), 100000000000000000L);
             due(x.likely(1, 0, 17, 7, 0), 99698791708803L);
             due(x.likely(1, 0, 17, 7, 1), 100000000000000000L);
-            due(x.likely(1, 0, 17, 8, 0), 4294967296L * 65536 * 2 / 131072);
+            due(x.likely(1, 0, 17, 8, 0), 4294967296L);
             due(x.likely(1, 0, 17, 8, 1), 762939453125L);
             due(x.likely(1, 0, 17, 0, 0), 0);
             due(x.likely(1, 0, 17, 0, 1), 1);

@@ -62,11 +62,22 @@ enum Looks {
                     x.undo();
                 }
             }
+            longRow(x, row, seen);
             see(seen, x.set(row, 0, 0x12345));
         }
         lanes(x, seen);
         for (int row = 0; row < ROWS_THERE - 1; row++) {
             see(seen, x.drop(row));
+        }
+    }
+
+    /** What a ROW of 40 ITEMS has behind those that are read one by one, together: there are not calls enough. */
+    private static void longRow(Keys x, int row, List<Long> seen) {
+        boolean all = x.gather(0, row, ITEMS_READ, 40 - ITEMS_READ) >= 0;
+        see(seen, x.keys(0));
+        see(seen, x.share(0, 1));
+        if (all) {
+            x.undo();
         }
     }
 

@@ -255,7 +255,8 @@ final class TextEdges extends Edges {
                     boolean figure = Character.isDigit(stray.charAt(0));
                     boolean joins = figure && (Character.isDigit(text[i].charAt(0)) || isNumber(text, i - 1));
                     boolean fits = text[i].equals(stray) || text[i].equals(",") && stray.equals(";")
-                        || text[i].equals(";") && stray.equals(",") && i > 2 || text[i].equals("r") && stray.equals("a");
+                        || text[i].equals(";") && stray.equals(",") && i > 2
+                        || text[i].equals("r") && stray.equals("a");
                     if (!joins && !fits) {
                         dueFault(before + stray + text[i], before.length(), 1);
                     }
