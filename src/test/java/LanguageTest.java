@@ -7,6 +7,9 @@ import java.nio.file.Path;
 import java.util.ArrayList;
 import java.util.Arrays;
 import java.util.List;
+import java.util.Map;
+import java.util.Set;
+import java.util.TreeMap;
 import java.util.TreeSet;
 import java.util.regex.Matcher;
 import java.util.regex.Pattern;
@@ -24,6 +27,8 @@ public final class LanguageTest {
         + "as(int,int)int ask(int,int)int trace(int)int count(int)int status()int";
     static final Pattern METHOD =
         Pattern.compile("^( {8}| {4})(?! |if|for|while|switch)[\\w\\[\\] ]+\\([^;]*\\) \\{$");
+    /** Each ends by fewer bits, or by a depth that is carried along. */
+    static final Set<String> RECURSIVE = Set.of("nodesOf", "depthOf", "stepsAbove", "answer", "body");
     static int wrong = 0;
 
     public static void main(String[] args) throws IOException {
@@ -31,7 +36,9 @@ public final class LanguageTest {
         face();
         classes();
         words(source);
+        library(source);
         lengths(source);
+        depths(source);
         room();
         System.out.println(wrong == 0 ? "the language is kept to" : wrong + " breaches of the language");
         if (wrong != 0) {
@@ -131,6 +138,68 @@ public final class LanguageTest {
                 breach(4, "a sign above 126 at " + i);
             }
         }
+    }
+
+    static void library(String source) {
+        List<String> used = List.of("Integer.bitCount", "Integer.numberOfLeadingZeros", "Integer.numberOfTrailingZeros",
+            "Math.max", "Math.min", "System.arraycopy");
+        Matcher found =
+            Pattern.compile("\\b(Integer|Long|Math|System|Arrays|Character|String)\\.(\\w+)").matcher(source);
+        while (found.find()) {
+            if (!used.contains(found.group())) {
+                breach(4, found.group() + " is not among what the class is known to use: look, and name it here");
+            }
+        }
+    }
+
+    /** How deep calls go that are no recursion; methods of one name in two classes are looked at as one. */
+    static void depths(String source) {
+        Map<String, Set<String>> called = calledBy(source);
+        for (String each : called.keySet()) {
+            int depth = depthFrom(each, called, new ArrayList<>());
+            if (depth > 8) {
+                breach(11, each + " begins calls that go " + depth + " deep");
+            }
+            if (depth == 0) {
+                breach(8, "a recursion that is not known to this test: " + each);
+            }
+        }
+    }
+
+    /** Of each method of the class the names of those that stand in its body. */
+    static Map<String, Set<String>> calledBy(String source) {
+        Map<String, Set<String>> called = new TreeMap<>();
+        String at = "";
+        for (String line : source.split("\n")) {
+            Matcher head = METHOD.matcher(line);
+            Matcher names = Pattern.compile("(\\w+)\\(").matcher(line);
+            if (head.matches() && names.find()) {
+                at = names.group(1);
+                called.putIfAbsent(at, new TreeSet<>());
+            }
+            while (!at.isEmpty() && names.find()) {
+                called.get(at).add(names.group(1));
+            }
+        }
+        return called;
+    }
+
+    /** 0, if a recursion other than the known ones stands in it. */
+    static int depthFrom(String method, Map<String, Set<String>> called, List<String> open) {
+        int deepest = 0;
+        open.add(method);
+        for (String each : called.get(method)) {
+            boolean isKnown = RECURSIVE.contains(method) && RECURSIVE.contains(each);
+            if (called.containsKey(each) && !isKnown) {
+                int deeper = open.contains(each) ? 0 : depthFrom(each, called, open);
+                if (deeper == 0) {
+                    return 0;
+                }
+                deepest = Math.max(deepest, deeper);
+            }
+        }
+        open.remove(open.size() - 1);
+        return 1 + deepest;
     }
 
     static void lengths(String source) {
